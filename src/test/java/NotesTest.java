@@ -120,6 +120,19 @@ public final class NotesTest {
         due.is("false elsewhere", x.notes(1, true), 0);
     }
 
+    private static void sixtyJars() {
+        AmphoraYard x = new AmphoraYard();
+        x.kind(1, 1, 1);
+        x.ship();
+        for (int jar = 0; jar < 60; jar++) {
+            x.fire(0, 2, 3);
+        }
+        x.load(59, 0, 0);
+        falsehood(x, 0, "jar 59 oil 0 maker 2 year 3 due 0", 0);
+        falsehood(x, 0, "jar 60 oil 0 maker 2 year 3 due 0", 1);
+        falsehood(x, 0, "jar 61 oil 0 maker 2 year 3 due 0", 1);
+    }
+
     private static String noteOf20(int dueNumber) {
         return "jar 1 oil 20 maker 3 year 121 due " + dueNumber;
     }
@@ -191,6 +204,7 @@ public final class NotesTest {
         rightTexts();
         theLongestTape();
         falseNotes();
+        sixtyJars();
         rates();
         duesAreRoundedUp();
         noSuchPort();

@@ -30,6 +30,8 @@ public final class SherdsTest {
         due.is("vessels", x.vessels(-1), 60);
         due.is("with stamp 11", x.vessels(11), 1);
         due.is("with stamp 5", x.vessels(5), 0);
+        due.is("join the last", x.join(59, 58), true);
+        due.is("vessels", x.vessels(-1), 59);
     }
 
     private static void looks() {

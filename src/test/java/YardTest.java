@@ -77,6 +77,9 @@ public final class YardTest {
         due.index("jar 61 of no kind", () -> x.fire(1, 16, 1));
         due.is("jars", x.count(1), 60);
         due.is("in the yard", x.count(2), 60);
+        due.is("in none", x.count(3) + x.count(4) + x.count(5), 0);
+        x.fill(59, 9);
+        due.is("oil of the last one", x.count(6), 9);
     }
 
     private static void filling() {
@@ -267,6 +270,28 @@ public final class YardTest {
         due.is("places", places(y), "33111131");
     }
 
+    /** A hundredth of 1 is rounded up to 1: nothing is borne then. */
+    private static void theLeastStorm() {
+        AmphoraYard x = new AmphoraYard();
+        x.kind(1, 1, 1);
+        x.kind(100, 200, 5000);
+        x.ship();
+        x.fire(0, 0, 1);
+        x.fire(0, 0, 1);
+        x.load(0, 0, 0);
+        x.load(1, 0, 0);
+        due.is("a storm of 0", x.storm(0, 0), 0);
+        due.is("a storm of 1", x.storm(0, 1), 1);
+        for (int jar = 2; jar < 12; jar++) {
+            x.fire(1, 0, 1);
+            x.fill(jar, 200);
+            due.is("load " + jar, x.load(jar, 0, 5), true);
+        }
+        due.is("2700 lie on 5000, less 46 hundredths", x.storm(0, 46), 0);
+        due.is("2700 lie on 5000, less 47 hundredths", x.storm(0, 47), 1);
+        due.is("which one", x.look(2, 0), 3);
+    }
+
     private static void oilOfBrokenJars() {
         AmphoraYard x = new AmphoraYard();
         x.kind(1, 50, 100);
@@ -301,6 +326,7 @@ public final class YardTest {
         eachJarBelowBears();
         storms();
         stormsBreakAtOnce();
+        theLeastStorm();
         oilOfBrokenJars();
         due.done();
     }

@@ -49,6 +49,7 @@ public final class YearsTest {
         due.argument("bound 61 that is none", () -> x.bound(0, 1001, true));
         due.index("tell 61 of none", () -> x.tell(0, 12, 0));
         due.is("tellings", x.count(8), 60);
+        due.is("least of sixty", x.span(2, false, 0), 5);
         due.index("undo 60", () -> x.undo(60) ? 1 : 0);
     }
 
@@ -107,6 +108,24 @@ public final class YearsTest {
         due.is("a ring of 12", x.quarrel(0), 12);
         x.tell(5, 4, -499);
         due.is("a ring of 2", x.quarrel(0), 2);
+    }
+
+    /** The longest chains are told from their ends on, so that each telling waits for the next one. */
+    private static void chainsToldBackward() {
+        AmphoraYard x = new AmphoraYard();
+        for (int stamp = 10; stamp >= 0; stamp--) {
+            x.tell(stamp, stamp + 1, 500);
+        }
+        x.bound(0, 1000, false);
+        due.is("they agree", x.agree(0), true);
+        due.is("the last one", x.span(11, false, 0), 6500);
+        AmphoraYard y = new AmphoraYard();
+        for (int stamp = 0; stamp < 11; stamp++) {
+            y.tell(stamp, stamp + 1, 500);
+        }
+        y.bound(11, 0, true);
+        due.is("they agree", y.agree(0), true);
+        due.is("the first one", y.span(0, true, 0), -5500);
     }
 
     private static void ringsOfZeroHold() {
@@ -229,6 +248,7 @@ public final class YearsTest {
         daysGoOn();
         knownFromDayToDay();
         ringsAndYearZero();
+        chainsToldBackward();
         ringsOfZeroHold();
         Random random = new Random(13);
         for (int round = 0; round < 1500; round++) {
