@@ -8,6 +8,11 @@ final class Due {
         long answer();
     }
 
+    /** A call with one argument that is looked at. */
+    interface Of {
+        long answer(int number);
+    }
+
     void is(String what, long got, long want) {
         asked++;
         if (got != want) {
@@ -31,6 +36,28 @@ final class Due {
     /** The very class is looked at: what the machine throws is of a class below those of the document. */
     void throwing(String what, Class<? extends RuntimeException> want, Call call) {
         is(what, outcome(call), "throws " + want.getName());
+    }
+
+    /** The least and the most are taken, and answered as due; their neighbours and the farthest are not. */
+    void takes(String what, int least, int most, Class<? extends RuntimeException> beyond, long want, Of call) {
+        for (int n : new int[] {least, least + 1, most - 1, most}) {
+            is(what + " " + n, outcome(() -> call.answer(n)), String.valueOf(want));
+        }
+        for (int n : new int[] {least - 1, most + 1, Integer.MIN_VALUE, Integer.MAX_VALUE}) {
+            throwing(what + " " + n, beyond, () -> call.answer(n));
+        }
+    }
+
+    void takesIndex(String what, int most, long want, Of call) {
+        takes(what, 0, most, IndexOutOfBoundsException.class, want, call);
+    }
+
+    void takesNumber(String what, int least, int most, long want, Of call) {
+        takes(what, least, most, IllegalArgumentException.class, want, call);
+    }
+
+    static long of(boolean answer) {
+        return answer ? 1 : 0;
     }
 
     static String outcome(Call call) {
